@@ -401,6 +401,19 @@ public final class ChangesTest {
         MoireEncoder z = Check.encoder("p8;");
         z.moveTo(4, 4);
         Check.due("12 a miss event is no mark event", z.recover(9), -2);
+        noPairWithoutTwoMarks();
+    }
+
+    /** Equal counters, and marks whose expected count is 0: position 0 is no mark. */
+    private static void noPairWithoutTwoMarks() {
+        MoireEncoder x = Check.encoder("p80;r10;");
+        x.moveTo(15, 1);
+        x.moveTo(5, 1);
+        Check.due("12 one mark at count 0", x.recover(0), -4);
+        MoireEncoder y = Check.encoder("p20;r4;r400;");
+        y.moveTo(10, 1);
+        y.moveTo(0, 1);
+        Check.due("12 two marks, one at count 0", y.recover(0), -4);
     }
 
     private static void promise12MissesBetweenMarks() {

@@ -12,6 +12,7 @@ public final class ReadingsTest {
         promise25IsWhatMoveToDoes();
         promise26FastestSafeSpeed();
         promise26NotFound();
+        promise25And26FirstSample();
         promise26IsWhatMoveToDoes();
         Check.finish();
     }
@@ -191,6 +192,23 @@ public final class ReadingsTest {
         // At speed 1 the samples at 2 are lost, but 3 reads the same quadrant.
         Check.due("26 a dirty place that costs nothing", z.fastestSafeSpeed(3), 99);
         Check.due("26 only slow speeds", z.fastestSafeSpeed(100), 1);
+        MoireEncoder w = Check.encoder("p20;d5,1;");
+        w.moveTo(5, 1);
+        Check.due("26 the same count, but a late reading", w.fastestSafeSpeed(6), -4);
+    }
+
+    /** The head's own place is not read again, not even when it is no longer dirty. */
+    private static void promise25And26FirstSample() {
+        MoireEncoder x = Check.encoder("p20;d10,5;");
+        x.moveTo(10, 5);
+        x.removeDirt(0);
+        Check.due("25 quadrant 1, then 3", x.predictSlip(15, 5), -2);
+        Check.due("25 quadrant 1, 2, then 3", x.predictSlip(15, 4), 0);
+        MoireEncoder y = Check.encoder("p20;m1;d15,1;");
+        y.moveTo(5, 5);
+        y.moveTo(15, 10);
+        y.removeDirt(0);
+        Check.due("26 quadrant 1, then 2", y.fastestSafeSpeed(14), 99);
     }
 
     private static void promise26IsWhatMoveToDoes() {

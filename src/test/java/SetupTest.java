@@ -145,6 +145,11 @@ public final class SetupTest {
         error("p8;d00010,10;", 3);
         error("p8;d10,00010;", 3);
         error("p8;r5;q;r4;", 6);
+        // Signs that would make a fitting number if they were taken for digits.
+        error("p<;", 0);
+        error("r:;", 0);
+        error("d:,5;", 0);
+        error("d5,:;", 0);
     }
 
     private static void promise04NumbersOutOfRange() {
@@ -217,6 +222,13 @@ public final class SetupTest {
         Check.due("5 cell 11", x.brightness(11, 1), 1);
         Check.due("5 default pitch", x.setIndexGrating(8, 0), 22);
         Check.due("5 default mode", x.setMode(4), 4);
+        MoireEncoder y = Check.encoder("p16;i40,40;m1;r5;d5,5;");
+        Check.type(y, "p16;");
+        Check.due("5 nothing of an earlier setup", y.configure(), 0);
+        Check.due("5 default offset again", y.brightness(0, 22), 5);
+        Check.due("5 default pitch again", y.setIndexGrating(8, 0), 22);
+        Check.due("5 default mode again", y.setMode(4), 4);
+        Check.due("5 no dirt again", y.removeDirt(0), -1);
     }
 
     private static void promise05LastStatementCounts() {
