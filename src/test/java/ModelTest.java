@@ -3,8 +3,6 @@ import java.util.ArrayList;
 import java.util.Deque;
 import java.util.List;
 import java.util.Random;
-import java.util.regex.Matcher;
-import java.util.regex.Pattern;
 
 /** Runs of calls by fixed seeds, on the encoder and on a second, plainer model of the document. */
 public final class ModelTest {
@@ -86,35 +84,7 @@ public final class ModelTest {
         }
 
         int firstError() {
-            Pattern statement = Pattern.compile("([pmr])(\\d{1,4});|([id])(\\d{1,4}),(\\d{1,4});");
-            Matcher matcher = statement.matcher(text);
-            int start = 0;
-            int last = -1;
-            int marksSeen = 0;
-            int spansSeen = 0;
-            while (start < text.length()) {
-                matcher.region(start, text.length());
-                if (!matcher.lookingAt()) {
-                    return start;
-                }
-                boolean one = matcher.group(1) != null;
-                char letter = (one ? matcher.group(1) : matcher.group(3)).charAt(0);
-                int a = Integer.parseInt(one ? matcher.group(2) : matcher.group(4));
-                int b = one ? 0 : Integer.parseInt(matcher.group(5));
-                boolean valid = switch (letter) {
-                    case 'p' -> a >= 8 && a <= 80 && a % 4 == 0;
-                    case 'm' -> a == 1 || a == 2 || a == 4;
-                    case 'i' -> a >= 8 && a <= 80 && b <= 79;
-                    case 'r' -> a > last && ++marksSeen <= 6;
-                    default -> b >= 1 && b <= 99 && ++spansSeen <= 4;
-                };
-                if (!valid) {
-                    return start;
-                }
-                last = letter == 'r' ? a : last;
-                start = matcher.end();
-            }
-            return -4;
+            return Grammar.firstError(text);
         }
 
         int configure() {
