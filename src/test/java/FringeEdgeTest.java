@@ -5,6 +5,7 @@ public final class FringeEdgeTest {
         promise25OwnPosition();
         promise25EndsOfTheRanges();
         promise25KeepsTheDecoder();
+        promise25And26NoSampleAtTheBegin();
         promise26OwnPosition();
         promise26GreatestSpeed();
         promise26LeastSpeed();
@@ -69,6 +70,22 @@ public final class FringeEdgeTest {
                 }
             }
         }
+    }
+
+    /** A move takes no sample where it begins, though the dirt there may have gone. */
+    private static void promise25And26NoSampleAtTheBegin() {
+        MoireEncoder x = Check.encoder("p20;d10,5;");
+        x.moveTo(10, 5);
+        x.removeDirt(0);
+        // Quadrant 1 was read last, the head stands in quadrant 2.
+        Check.due("25 from 1 to 3", x.predictSlip(15, 5), -2);
+        Check.due("25 at its own place", x.predictSlip(10, 5), -1);
+        Check.due("26 from 1 to 0 in one step, or from 1 to 3", x.fastestSafeSpeed(20), search(x, 20));
+        MoireEncoder y = Check.encoder("p20;m1;d15,1;");
+        y.moveTo(5, 5);
+        y.moveTo(15, 10);
+        y.removeDirt(0);
+        Check.due("26 from 1 to 2, not by way of 3", y.fastestSafeSpeed(14), 99);
     }
 
     /** "without making it" */
@@ -189,6 +206,11 @@ public final class FringeEdgeTest {
         Check.due("26 into the dirt", x.fastestSafeSpeed(100), -4);
         Check.due("26 through the dirt", x.fastestSafeSpeed(200), -4);
         Check.due("26 before the dirt", x.fastestSafeSpeed(95), 99);
+        // Head and target have the same count, but quadrant 0 was read last: each speed changes the slip.
+        MoireEncoder y = Check.encoder("p20;d5,1;");
+        y.moveTo(5, 1);
+        Check.due("26 the same count", y.expectedCount(6), y.expectedCount(5));
+        Check.due("26 a late reading", y.fastestSafeSpeed(6), -4);
     }
 
     private static void promise26EndsOfTheScale() {
@@ -309,21 +331,30 @@ public final class FringeEdgeTest {
     private static void promise28FirstAndLastCells() {
         // Brightness of 88 cells grows by one at start 199; one cell further would not count.
         Check.due("28 cell 199", Check.encoder("p8;i29,18;").brightestStart(88), 199);
-        MoireEncoder x = Check.encoder("p80;i79,0;");
-        int seen = -1;
-        for (int head = 0; head < 80; head++) {
-            x.moveTo(head, 1);
-            for (int width = 1; width <= 200; width += 199) {
-                int best = 0;
-                for (int start = 1; start <= 199; start++) {
-                    boolean more = byHand(head, start, width, 80, 79, 0) > byHand(head, best, width, 80, 79, 0);
-                    best = more ? start : best;
+        // Here the window at cell 200 would be brighter than all before it.
+        int beyond = byHand(0, 200, 160, 8, 29, 15);
+        for (int start = 0; start <= 199; start++) {
+            Check.due("28 cell 200 would win", byHand(0, start, 160, 8, 29, 15) < beyond, true);
+        }
+        Check.due("28 not cell 200", Check.encoder("p8;i29,15;").brightestStart(160), byHandBest(0, 160, 8, 29, 15));
+        for (int offset = 0; offset <= 79; offset++) {
+            MoireEncoder x = Check.encoder("p80;i79," + offset + ";");
+            for (int head = 0; head < 80; head += 13) {
+                x.moveTo(head, 1);
+                for (int width = 1; width <= 200; width += 199) {
+                    int best = byHandBest(head, width, 80, 79, offset);
+                    Check.due("28 head " + head + " width " + width, x.brightestStart(width), best);
                 }
-                Check.due("28 head " + head + " width " + width, x.brightestStart(width), best);
-                seen = Math.max(seen, best);
             }
         }
-        Check.due("28 some window begins far behind", seen > 100, true);
+    }
+
+    private static int byHandBest(int head, int width, int p, int q, int d) {
+        int best = 0;
+        for (int start = 1; start <= 199; start++) {
+            best = byHand(head, start, width, p, q, d) > byHand(head, best, width, p, q, d) ? start : best;
+        }
+        return best;
     }
 
     private static void promise28NoBrightCell() {

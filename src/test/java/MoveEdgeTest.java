@@ -14,6 +14,7 @@ public final class MoveEdgeTest {
         missEventInAnEmptyLog();
         missEventBehindAMark();
         noMissEventBehindAMiss();
+        noMissEventBehindAMissInAnyLog();
         newQuadrantIsKeptInEveryCase();
         marksOfAForwardStep();
         marksOfABackwardStep();
@@ -264,6 +265,33 @@ public final class MoveEdgeTest {
         Check.due("still three events", x.eventKind(3), -1);
         x.undo();
         Check.due("as before", x.misses(), 3);
+    }
+
+    /** However many events the log holds: a miss is the newest of one event, of two, and so on. */
+    private static void noMissEventBehindAMissInAnyLog() {
+        for (int marks = 0; marks <= 8; marks++) {
+            MoireEncoder x = Check.encoder("p80;r1;");
+            for (int n = 0; n < marks; n++) {
+                x.moveTo(n % 2 == 0 ? 2 : 0, 2);
+            }
+            // Away from the mark first, so that none of the missing samples passes it.
+            x.moveTo(x.position() == 0 ? 0 : 10, 1);
+            boolean passes = x.position() == 0;
+            Check.due("a miss", x.moveTo(x.position() + 40, 40), 1);
+            Check.due("newest", x.eventKind(0), passes ? 0 : 1);
+            Check.due("a second miss", x.moveTo(x.position() + 40, 40), 1);
+            int place = x.position() - (passes ? 0 : 40);
+            event(x, 0, 1, place, 0);
+            Check.due("a third miss", x.moveTo(x.position() + 40, 40), 1);
+            event(x, 0, 1, place, 0);
+            int size = Math.min(8, marks + (passes ? 3 : 1));
+            Check.due("held", x.eventKind(size - 1) >= 0, true);
+            Check.due("no more", x.eventKind(size), -1);
+        }
+        MoireEncoder y = Check.encoder("p80;");
+        Check.due("two misses and no mark", y.moveTo(80, 40), 2);
+        event(y, 0, 1, 40, 0);
+        Check.due("one event", y.eventKind(1), -1);
     }
 
     /** "In every case the new quadrant becomes the quadrant read last." */

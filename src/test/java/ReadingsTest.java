@@ -70,7 +70,7 @@ public final class ReadingsTest {
         MoireEncoder y = Check.encoder("p20;");
         y.moveTo(10, 10);
         Check.due("19 1.0", y.missRateBits(), 0x3f800000);
-        for (int n = 0; n < 200; n++) {
+        for (int n = 0; n < 120; n++) {
             y.moveTo(n % 2 == 0 ? 9999 : 0, 1 + n % 99);
             Check.due("19 rate " + n, y.missRateBits(),
                     Float.floatToIntBits((float) y.misses() / (float) y.samples()));
