@@ -1,4 +1,7 @@
 import java.io.IOException;
+import java.lang.reflect.Field;
+import java.lang.reflect.Method;
+import java.lang.reflect.Modifier;
 import java.nio.file.Files;
 import java.nio.file.Path;
 import java.util.regex.Matcher;
@@ -25,7 +28,22 @@ public final class LanguageTest {
         int classes = code.split("\\bclass\\b", -1).length - 1;
         Check.due("at most twelve classes", classes <= 12, true);
         methodsAreShort(code);
+        classesAreSmall(MoireEncoder.class);
+        for (Class<?> inside : MoireEncoder.class.getDeclaredClasses()) {
+            classesAreSmall(inside);
+        }
         Check.finish();
+    }
+
+    private static void classesAreSmall(Class<?> type) {
+        int fields = 0;
+        for (Field field : type.getDeclaredFields()) {
+            fields += Modifier.isStatic(field.getModifiers()) ? 0 : 1;
+        }
+        Check.due(type + " has at most twenty fields", fields <= 20, true);
+        for (Method method : type.getDeclaredMethods()) {
+            Check.due(method + " has at most seven parameters", method.getParameterCount() <= 7, true);
+        }
     }
 
     private static void methodsAreShort(String code) {
